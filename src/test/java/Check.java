@@ -1,3 +1,5 @@
+import java.util.List;
+
 /** What the tests share: counts the answers that are not due, and tells them. */
 final class Check {
     /** A call of which only the exception matters. */
@@ -7,15 +9,34 @@ final class Check {
 
     private static int checks = 0;
     private static int wrong = 0;
+    private static String sentence = "";
 
     private Check() {
+    }
+
+    /** The words of the document that the checks behind it are about, and the promise where they stand. */
+    static void sentence(String words) {
+        sentence = words + ": ";
     }
 
     static void due(String what, long got, long due) {
         checks++;
         if (got != due) {
-            wrong++;
-            System.out.println(what + " answered " + got + ", due is " + due);
+            tell(what + " answered " + got + ", due is " + due);
+        }
+    }
+
+    /** Tells the first line that differs; the lists come from the same questions. */
+    static void same(String what, List<String> got, List<String> due) {
+        checks++;
+        int line = 0;
+        while (line < got.size() && line < due.size() && got.get(line).equals(due.get(line))) {
+            line++;
+        }
+        if (line < got.size() || line < due.size()) {
+            String gotLine = line < got.size() ? got.get(line) : "nothing";
+            String dueLine = line < due.size() ? due.get(line) : "nothing";
+            tell(what + ": " + gotLine + ", due is " + dueLine);
         }
     }
 
@@ -29,8 +50,7 @@ final class Check {
             got = e.getClass();
         }
         if (got != due) {
-            wrong++;
-            System.out.println(what + " threw " + (got == null ? "nothing" : got.getName()) + ", due is " + due.getName());
+            tell(what + " threw " + (got == null ? "nothing" : got.getName()) + ", due is " + due.getName());
         }
     }
 
@@ -46,10 +66,21 @@ final class Check {
         refused(what, IllegalStateException.class, call);
     }
 
+    /** The numbers next to a range on both sides, and the ones farthest from it. */
+    static int[] outside(int first, int last) {
+        return new int[] {Integer.MIN_VALUE, Integer.MIN_VALUE + 1, -1 - last, first - 1, last + 1, last + 2, 1 << 17,
+            1 << 30, Integer.MAX_VALUE - 1, Integer.MAX_VALUE};
+    }
+
     static void end() {
         System.out.println(checks + " checks, " + wrong + " wrong");
         if (wrong != 0 || checks == 0) {
             System.exit(1);
         }
+    }
+
+    private static void tell(String what) {
+        wrong++;
+        System.out.println(sentence + what);
     }
 }
